@@ -1,0 +1,62 @@
+/** Counts checks, prints those that are wrong, and ends the program with 1 if there was one. */
+final class Checks {
+    interface Call {
+        void run();
+    }
+
+    private int right = 0;
+    private int wrong = 0;
+
+    void is(String what, long got, long due) {
+        count(got == due, what + " answered " + got + ", due is " + due);
+    }
+
+    void isMean(String what, double got, double due) {
+        count(got == due, what + " answered " + got + ", due is " + due);
+    }
+
+    void is(String what, boolean got, boolean due) {
+        count(got == due, what + " answered " + got + ", due is " + due);
+    }
+
+    /** A refused call throws this very class, not one below it, and changes nothing that can be asked. */
+    void index(TrackNights road, String what, Call call) {
+        refused(road, what, IndexOutOfBoundsException.class, call);
+    }
+
+    void argument(TrackNights road, String what, Call call) {
+        refused(road, what, IllegalArgumentException.class, call);
+    }
+
+    void state(TrackNights road, String what, Call call) {
+        refused(road, what, IllegalStateException.class, call);
+    }
+
+    private void refused(TrackNights road, String what, Class<?> due, Call call) {
+        long before = road.digest();
+        String thrown = "nothing";
+        try {
+            call.run();
+        } catch (RuntimeException e) {
+            thrown = e.getClass().getName();
+        }
+        count(thrown.equals(due.getName()), what + " threw " + thrown + ", due is " + due.getName());
+        count(road.digest() == before, what + " changed the digest");
+    }
+
+    private void count(boolean good, String complaint) {
+        if (good) {
+            right++;
+        } else {
+            wrong++;
+            System.out.println(complaint);
+        }
+    }
+
+    void finish() {
+        System.out.println(right + " checks right, " + wrong + " wrong");
+        if (wrong > 0) {
+            System.exit(1);
+        }
+    }
+}
