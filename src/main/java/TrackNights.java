@@ -577,7 +577,7 @@ public final class TrackNights {
 
     private Values knownValues(int section) {
         int number = knowingMeasure(section);
-        if (number == NONE) {
+        if (number < 0 || number >= measures.size()) {
             return unknown;
         }
         Values values = measures.get(number).says(section);

@@ -340,6 +340,48 @@ public final class AskedTest {
         CHECK.is("digest, again", x.digest(), digestOf(x));
         x.pass(33, 40, 6);
         CHECK.is("digest, later", x.digest(), digestOf(x));
+        x.pass(33, 60, 1);
+        CHECK.is("digest by HEAT", x.digest(), digestOf(x));
+        digestsAskTheRightStretches();
+        digestsAskForTheRightDays();
+    }
+
+    private static void digestsAskTheRightStretches() {
+        TrackNights x = new TrackNights();
+        x.book(0, 0, 0, 5, 2);
+        x.book(0, 9, 9, 6, 2);
+        x.book(1, 3, 3, 5, 2);
+        x.book(1, 5, 5, 6, 2);
+        x.book(1, 2, 2, 7, 2);
+        x.book(1, 6, 6, 7, 2);
+        CHECK.is("freeDay of all of track 0", x.freeDay(0, 0, 9), 7);
+        CHECK.is("freeDay of 3 to 5 of track 1", x.freeDay(1, 3, 5), 7);
+        CHECK.is("digest with nights ahead", x.digest(), digestOf(x));
+    }
+
+    private static void digestsAskForTheRightDays() {
+        TrackNights x = new TrackNights();
+        x.curve(0, true);
+        x.pass(35, 27, 6);
+        x.curve(0, false);
+        x.pass(19, 48, 1);
+        CHECK.is("30 DAYS", x.bestWork(0, 20, 30), 0);
+        CHECK.is("31 DAYS", x.bestWork(0, 20, 31), 2);
+        CHECK.is("digest, 31 DAYS would differ", x.digest(), digestOf(x));
+
+        TrackNights y = new TrackNights();
+        y.machine(0, 99);
+        y.book(0, 0, 0, 5, 8);
+        y.work(0, 0, 0);
+        y.work(0, 0, 0);
+        y.work(0, 0, 0);
+        y.pass(16, 1, 5);
+        takeIt(y, 0);
+        y.giveBack(0);
+        y.pass(21, -10, 12);
+        CHECK.is("29 DAYS", y.bestWork(0, 20, 29), 0);
+        CHECK.is("30 DAYS", y.bestWork(0, 20, 30), 2);
+        CHECK.is("digest, 29 DAYS would differ", y.digest(), digestOf(y));
     }
 
     private static long digestOf(TrackNights x) {

@@ -19,6 +19,12 @@ final class Checks {
         count(got == due, what + " answered " + got + ", due is " + due);
     }
 
+    /** Whether the program's own code threw it: the library's and the machine's exceptions are none of its answers. */
+    static boolean isThrownByProgram(RuntimeException e) {
+        StackTraceElement[] trace = e.getStackTrace();
+        return trace.length > 0 && trace[0].getClassName().startsWith("TrackNights");
+    }
+
     /** A refused call throws this very class, not one below it, and changes nothing that can be asked. */
     void index(TrackNights road, String what, Call call) {
         refused(road, what, IndexOutOfBoundsException.class, call);
@@ -38,7 +44,7 @@ final class Checks {
         try {
             call.run();
         } catch (RuntimeException e) {
-            thrown = e.getClass().getName();
+            thrown = e.getClass().getName() + (isThrownByProgram(e) ? "" : " by the library");
         }
         count(thrown.equals(due.getName()), what + " threw " + thrown + ", due is " + due.getName());
         count(road.digest() == before, what + " changed the digest");

@@ -181,6 +181,12 @@ public final class MeasureTest {
         CHECK.is("couldSee, the first", x.couldSee(13), 3);
         CHECK.is("known by the latest", x.known(13, 4), 4);
         CHECK.is("couldSee of the other track", x.couldSee(3), -1);
+        TrackNights y = new TrackNights();
+        y.curve(3, true);
+        y.pass(40, 27, 5);
+        y.pass(0, 27, 6);
+        y.measure(0, 3, 3, 0);
+        CHECK.is("couldSee by the first of all", y.couldSee(3), 0);
         CHECK.index(x, "couldSee(-1)", () -> x.couldSee(-1));
         CHECK.index(x, "couldSee(20)", () -> x.couldSee(20));
     }

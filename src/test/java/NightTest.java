@@ -239,7 +239,9 @@ public final class NightTest {
         x.pass(0, 27, 6);
         CHECK.state(x, "cancel one that is MISSED", () -> x.cancel(3));
         x.mark(4, 0);
+        CHECK.is("COST", x.many(9), 70 + 7 * 20);
         CHECK.is("cancel on its DAY", x.cancel(4), 30);
+        CHECK.is("COST", x.many(9), 70 + 7 * 20 + 30);
         CHECK.is("many CANCELLED", x.many(8), 3);
         CHECK.is("many MISSED", x.many(7), 1);
         CHECK.is("many GIVEN BACK", x.many(6), 1);

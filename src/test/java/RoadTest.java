@@ -294,13 +294,14 @@ public final class RoadTest {
 
         TrackNights y = curved(0);
         y.machine(1, 40);
-        y.book(0, 0, 0, 22, 8);
+        y.book(0, 0, 0, 19, 8);
+        y.work(0, 0, 0);
         y.work(0, 0, 0);
         y.pass(40, 27, 5);
-        y.pass(0, 27, 17);
-        CHECK.is("CRACK 43 here is", y.ofSection(0, 1), 38);
+        y.pass(0, 27, 14);
         holdNight(y, 0);
-        CHECK.is("CRACK 30", y.ofSection(0, 1), 30);
+        CHECK.is("CRACK 9", y.ofSection(0, 1), 9);
+        bearsOn(y, 0, 120, 3, "CRACK 9");
 
         TrackNights z = curved(0);
         z.machine(1, 40);
