@@ -28,19 +28,24 @@ public final class AskedTest {
 
     // Promises 16, 18 and 21
     private static void questionsRefuse() {
+        CHECK.promise(16, "if section is not 0 to 19");
         TrackNights x = new TrackNights();
         CHECK.index(x, "ofSection(-1, 0)", () -> x.ofSection(-1, 0));
         CHECK.index(x, "ofSection(20, 8)", () -> x.ofSection(20, 8));
+        CHECK.promise(16, "if what is not 0 to 7");
         CHECK.argument(x, "ofSection(0, -1)", () -> x.ofSection(0, -1));
         CHECK.argument(x, "ofSection(0, 8)", () -> x.ofSection(0, 8));
+        CHECK.promise(18, "if section is not 0 to 19");
         CHECK.index(x, "why(-1)", () -> x.why(-1, false));
         CHECK.index(x, "why(20)", () -> x.why(20, true));
+        CHECK.promise(21, "if what is not 0 to 16");
         CHECK.argument(x, "many(-1)", () -> x.many(-1));
         CHECK.argument(x, "many(17)", () -> x.many(17));
     }
 
     // Promise 18
     private static void whyIsTheSmallestNumber() {
+        CHECK.promise(18, "of several that bear as little the smallest number");
         TrackNights x = new TrackNights();
         x.pass(10, 48, 30);
         CHECK.is("SETTLE 30 bears 80, as HEAT does", x.why(2, false), 3);
@@ -77,6 +82,7 @@ public final class AskedTest {
 
     // Promise 21
     private static void manyOfSections() {
+        CHECK.promise(21, "13 SECTIONS whose SIGN is above their TRUE speed, 14 those whose SIGN is above their KNOWN speed");
         TrackNights x = new TrackNights();
         x.pass(0, 58, 1);
         CHECK.is("SIGNS above the TRUE speed", x.many(13), 20);
@@ -95,6 +101,7 @@ public final class AskedTest {
 
     // Promise 22
     private static void meanWears() {
+        CHECK.promise(22, "not rounded: their sum divided by 10.0");
         TrackNights x = new TrackNights();
         CHECK.isMean("meanWear of a new road", x.meanWear(0), 0.0);
         x.curve(0, true);
@@ -103,20 +110,24 @@ public final class AskedTest {
         x.pass(7, 27, 3);
         CHECK.isMean("meanWear of 0", x.meanWear(0), 3 / 10.0);
         CHECK.isMean("meanWear of 1", x.meanWear(1), 6 / 10.0);
+        CHECK.promise(22, "if track is not 0 or 1");
         CHECK.index(x, "meanWear(-1)", () -> x.meanWear(-1));
         CHECK.index(x, "meanWear(2)", () -> x.meanWear(2));
     }
 
     // Promise 24
     private static void firstRiskRefuses() {
+        CHECK.promise(24, "if section is not 0 to 19");
         TrackNights x = new TrackNights();
         CHECK.index(x, "firstRisk(-1, 0)", () -> x.firstRisk(-1, 0));
         CHECK.index(x, "firstRisk(20, 41)", () -> x.firstRisk(20, 41));
+        CHECK.promise(24, "if trains is not 0 to 40");
         CHECK.argument(x, "firstRisk(0, -1)", () -> x.firstRisk(0, -1));
         CHECK.argument(x, "firstRisk(0, 41)", () -> x.firstRisk(0, 41));
     }
 
     private static void firstRisks() {
+        CHECK.promise(24, "behind how many DAYS its SIGN would be above its TRUE speed; NONE, if not within 200");
         TrackNights x = new TrackNights();
         CHECK.is("firstRisk of 40 trains: SETTLE 20", x.firstRisk(0, 40), 5);
         CHECK.is("firstRisk of 10 trains", x.firstRisk(0, 10), 20);
@@ -128,10 +139,12 @@ public final class AskedTest {
         x.sign(0, 0);
         CHECK.is("firstRisk with a SIGN of 0", x.firstRisk(0, 40), -1);
         x.pass(0, 58, 1);
+        CHECK.promise(24, "0, if it is now");
         CHECK.is("firstRisk by HEAT, now", x.firstRisk(1, 0), 0);
         x.sign(1, 40);
         CHECK.is("firstRisk by a SIGN as HEAT bears", x.firstRisk(1, 0), -1);
 
+        CHECK.promise(24, "behind how many DAYS its SIGN would be above its TRUE speed");
         TrackNights y = new TrackNights();
         y.curve(0, true);
         y.sign(0, 20);
@@ -139,18 +152,21 @@ public final class AskedTest {
         y.pass(0, 27, 1);
         CHECK.is("WEAR 50 behind 49 DAYS, CRACK 43 behind 18 more", y.firstRisk(0, 4), 49 + 18);
 
+        CHECK.promise(24, "also behind DAY 2000");
         TrackNights z = new TrackNights();
         for (int i = 0; i < 34; i++) {
             z.pass(0, 27, i < 33 ? 60 : 20);
         }
         CHECK.is("the last DAY", z.many(0), 2000);
         CHECK.is("also behind DAY 2000", z.firstRisk(0, 40), 5);
+        CHECK.promise(25, "also behind DAY 2000");
         CHECK.is("bestWork also behind DAY 2000", z.bestWork(0, 40, 200), 3);
 
         firstRisksBehindTamping();
     }
 
     private static void firstRisksBehindTamping() {
+        CHECK.promise(24, "behind how many DAYS its SIGN would be above its TRUE speed; NONE, if not within 200");
         TrackNights x = new TrackNights();
         x.machine(0, 40);
         x.book(0, 0, 1, 5, 8);
@@ -174,9 +190,11 @@ public final class AskedTest {
 
     // Promise 25
     private static void bestWorkRefuses() {
+        CHECK.promise(25, "if section is not 0 to 19");
         TrackNights x = new TrackNights();
         CHECK.index(x, "bestWork(-1, 0, 1)", () -> x.bestWork(-1, 0, 1));
         CHECK.index(x, "bestWork(20, 41, 0)", () -> x.bestWork(20, 41, 0));
+        CHECK.promise(25, "if trains is not 0 to 40, or days not 1 to 200");
         CHECK.argument(x, "bestWork(0, -1, 1)", () -> x.bestWork(0, -1, 1));
         CHECK.argument(x, "bestWork(0, 41, 1)", () -> x.bestWork(0, 41, 1));
         CHECK.argument(x, "bestWork(0, 0, 0)", () -> x.bestWork(0, 0, 0));
@@ -185,6 +203,7 @@ public final class AskedTest {
     }
 
     private static void bestWorks() {
+        CHECK.promise(25, "what is cheapest, if it was done now; of several the smallest number");
         TrackNights x = new TrackNights();
         CHECK.is("nothing, on a new road", x.bestWork(0, 40, 1), 3);
         x.pass(10, 27, 25);
@@ -206,6 +225,7 @@ public final class AskedTest {
     }
 
     private static void bestWorkOnCurves() {
+        CHECK.promise(25, "1 HOUR more on a CURVE");
         TrackNights x = new TrackNights();
         x.pass(10, 27, 25);
         CHECK.is("3 DAYS, no CURVE", x.bestWork(0, 20, 3), 0);
@@ -214,6 +234,7 @@ public final class AskedTest {
     }
 
     private static void bestWorkIsRoundedDayByDay() {
+        CHECK.promise(25, "for each of the DAYS TRAINS times (160 less the TRUE speed), / 80");
         TrackNights x = new TrackNights();
         x.pass(10, 27, 20);
         // SETTLE 20 bears 120: 3 trains cost 3 * 40 / 80, 1 a DAY; 45 in 30 DAYS if it was rounded at their end.
@@ -223,6 +244,7 @@ public final class AskedTest {
     }
 
     private static void bestWorkRenewsByTheHeat() {
+        CHECK.promise(25, "with the HEAT as it is; 300 more for RENEWING; of several the smallest number");
         TrackNights x = new TrackNights();
         x.pass(0, 60, 1);
         // A HEAT of 60 bears 40 with a FREE of 27, 160 with one of 40: 8 trains cost 12 a DAY, or nothing.
@@ -237,6 +259,7 @@ public final class AskedTest {
 
     // Promise 26
     private static void freeDays() {
+        CHECK.promise(26, "if track is not 0 or 1, or from or to not 0 to 9");
         TrackNights x = new TrackNights();
         CHECK.index(x, "freeDay(-1, 0, 0)", () -> x.freeDay(-1, 0, 0));
         CHECK.index(x, "freeDay(2, 1, 0)", () -> x.freeDay(2, 1, 0));
@@ -244,7 +267,9 @@ public final class AskedTest {
         CHECK.index(x, "freeDay(0, 10, 0)", () -> x.freeDay(0, 10, 0));
         CHECK.index(x, "freeDay(0, 0, 10)", () -> x.freeDay(0, 0, 10));
         CHECK.index(x, "freeDay(0, 0, -1)", () -> x.freeDay(0, 0, -1));
+        CHECK.promise(26, "if to is below from");
         CHECK.argument(x, "freeDay(0, 1, 0)", () -> x.freeDay(0, 1, 0));
+        CHECK.promise(26, "the first DAY that is 5 or more later for which a POSSESSION could be BOOKED there");
         CHECK.is("freeDay of a new road", x.freeDay(0, 0, 9), 5);
         x.book(0, 3, 5, 5, 2);
         x.book(0, 5, 9, 6, 2);
@@ -255,10 +280,12 @@ public final class AskedTest {
         CHECK.is("freeDay of the other track", x.freeDay(1, 0, 9), 5);
         x.cancel(0);
         CHECK.is("freeDay with one CANCELLED", x.freeDay(0, 5, 5), 5);
+        CHECK.promise(26, "however many there were");
         for (int i = 0; i < 14; i++) {
             x.book(1, 0, 9, 5 + i, 2);
         }
         CHECK.is("freeDay with 16", x.freeDay(1, 4, 4), 19);
+        CHECK.promise(26, "NONE without one up to 2000");
         for (int i = 0; i < 33; i++) {
             x.pass(0, 27, 60);
         }
@@ -278,6 +305,7 @@ public final class AskedTest {
 
     // Promise 27
     private static void wouldOverruns() {
+        CHECK.promise(27, "if there is no such POSSESSION");
         TrackNights x = new TrackNights();
         CHECK.index(x, "wouldOverrun(0) without one", () -> x.wouldOverrun(0));
         x.machine(1, 5);
@@ -286,6 +314,7 @@ public final class AskedTest {
         x.book(1, 0, 9, 5, 2);
         CHECK.index(x, "wouldOverrun(-1)", () -> x.wouldOverrun(-1));
         CHECK.index(x, "wouldOverrun(2)", () -> x.wouldOverrun(2));
+        CHECK.promise(27, "its OVERRUN, if it was GIVEN BACK by the call with the LIVES of MACHINES as they are, which go down WORK by WORK");
         CHECK.is("without WORKS", x.wouldOverrun(0), 0);
         x.work(0, 0, 0);
         x.work(0, 0, 0);
@@ -302,6 +331,7 @@ public final class AskedTest {
         CHECK.is("TAKEN", x.wouldOverrun(0), 4);
         CHECK.is("nothing is changed", x.ofMachine(0, 3), 0);
         CHECK.is("as giveBack does", x.giveBack(0), 4);
+        CHECK.promise(27, "if it is neither BOOKED nor TAKEN");
         CHECK.state(x, "GIVEN BACK", () -> x.wouldOverrun(0));
         x.cancel(1);
         CHECK.state(x, "CANCELLED", () -> x.wouldOverrun(1));
@@ -309,6 +339,7 @@ public final class AskedTest {
         x.pass(0, 27, 6);
         CHECK.state(x, "MISSED", () -> x.wouldOverrun(2));
 
+        CHECK.promise(27, "with the LIVES of MACHINES as they are");
         TrackNights y = new TrackNights();
         y.machine(2, 7);
         y.machine(0, 0);
@@ -325,6 +356,7 @@ public final class AskedTest {
 
     // Promise 28
     private static void digests() {
+        CHECK.promise(28, "for each v in this order");
         TrackNights x = new TrackNights();
         x.machine(1, 9);
         x.machine(2, 30);
@@ -347,6 +379,7 @@ public final class AskedTest {
     }
 
     private static void digestsAskTheRightStretches() {
+        CHECK.promise(28, "freeDay() of the TRACK 0 from 0 to 9, and of 1 from 3 to 5");
         TrackNights x = new TrackNights();
         x.book(0, 0, 0, 5, 2);
         x.book(0, 9, 9, 6, 2);
@@ -360,6 +393,7 @@ public final class AskedTest {
     }
 
     private static void digestsAskForTheRightDays() {
+        CHECK.promise(28, "bestWork() with 20 and 30");
         TrackNights x = new TrackNights();
         x.curve(0, true);
         x.pass(35, 27, 6);

@@ -6,6 +6,12 @@ final class Checks {
 
     private int right = 0;
     private int wrong = 0;
+    private String promise = "";
+
+    /** Which promise of the document, and which sentence of it, the checks from here on hold. */
+    void promise(int number, String sentence) {
+        promise = "promise " + number + ", \"" + sentence + "\": ";
+    }
 
     void is(String what, long got, long due) {
         count(got == due, what + " answered " + got + ", due is " + due);
@@ -38,14 +44,24 @@ final class Checks {
         refused(road, what, IllegalStateException.class, call);
     }
 
-    private void refused(TrackNights road, String what, Class<?> due, Call call) {
-        long before = road.digest();
-        String thrown = "nothing";
+    /** Not refused, whatever it answers. */
+    void answers(String what, Call call) {
+        String thrown = thrownBy(call);
+        count(thrown.equals("nothing"), what + " threw " + thrown + ", an answer is due");
+    }
+
+    private static String thrownBy(Call call) {
         try {
             call.run();
         } catch (RuntimeException e) {
-            thrown = e.getClass().getName() + (isThrownByProgram(e) ? "" : " by the library");
+            return e.getClass().getName() + (isThrownByProgram(e) ? "" : " by the library");
         }
+        return "nothing";
+    }
+
+    void refused(TrackNights road, String what, Class<?> due, Call call) {
+        long before = road.digest();
+        String thrown = thrownBy(call);
         count(thrown.equals(due.getName()), what + " threw " + thrown + ", due is " + due.getName());
         count(road.digest() == before, what + " changed the digest");
     }
@@ -55,7 +71,7 @@ final class Checks {
             right++;
         } else {
             wrong++;
-            System.out.println(complaint);
+            System.out.println(promise + complaint);
         }
     }
 

@@ -31,6 +31,7 @@ public final class MeasureTest {
 
     // Promise 5
     private static void measureRefuses() {
+        CHECK.promise(5, "if track is not 0 or 1, or from or to not 0 to 9");
         TrackNights x = new TrackNights();
         CHECK.index(x, "measure, track -1", () -> x.measure(-1, 0, 0, 0));
         CHECK.index(x, "measure, track 2", () -> x.measure(2, 0, 0, 0));
@@ -38,27 +39,33 @@ public final class MeasureTest {
         CHECK.index(x, "measure, from 10", () -> x.measure(0, 10, 10, 0));
         CHECK.index(x, "measure, to 10", () -> x.measure(0, 0, 10, 0));
         CHECK.index(x, "measure, to -1 is below from", () -> x.measure(0, 0, -1, 0));
+        CHECK.promise(5, "if to is below from, or drift not -2 to 2");
         CHECK.argument(x, "measure, to below from", () -> x.measure(0, 5, 4, 0));
         CHECK.argument(x, "measure, drift -3", () -> x.measure(0, 0, 0, -3));
         CHECK.argument(x, "measure, drift 3", () -> x.measure(0, 0, 0, 3));
+        CHECK.promise(5, "the one that is named first is thrown");
         CHECK.index(x, "measure, track 2 and drift 3", () -> x.measure(2, 0, 0, 3));
         CHECK.is("many measures", x.many(2), 0);
     }
 
     // Promise 6
     private static void alignRefuses() {
+        CHECK.promise(6, "if there is no such MEASURE");
         TrackNights x = new TrackNights();
         CHECK.index(x, "align(0) without one", () -> x.align(0));
         CHECK.index(x, "align(-1)", () -> x.align(-1));
         x.measure(1, 9, 9, -2);
         CHECK.index(x, "align(1)", () -> x.align(1));
         CHECK.is("aligned ones", x.many(3), 0);
+        CHECK.promise(6, "Returns its DRIFT");
         CHECK.is("align(0)", x.align(0), -2);
         CHECK.is("aligned ones", x.many(3), 1);
+        CHECK.promise(6, "if it is ALIGNED");
         CHECK.state(x, "align(0) again", () -> x.align(0));
     }
 
     private static void atMostTwelve() {
+        CHECK.promise(5, "if there were 12");
         TrackNights x = new TrackNights();
         for (int i = 0; i < 12; i++) {
             CHECK.is("measure " + i, x.measure(i % 2, 0, 9, i % 5 - 2), i);
@@ -75,6 +82,7 @@ public final class MeasureTest {
     }
 
     private static void driftIsWritten() {
+        CHECK.promise(17, "it WRITES the WEAR of the KILOMETRE that is as much as DRIFT more on that TRACK; nothing, if there is none");
         TrackNights x = stairs();
         for (int s = 0; s < 20; s++) {
             CHECK.is("the stairs", x.ofSection(s, 0), wearOf(s));
@@ -97,6 +105,7 @@ public final class MeasureTest {
     }
 
     private static void alignedIsRead() {
+        CHECK.promise(17, "one that is ALIGNED says of it what it WROTE for the one that is DRIFT less");
         TrackNights x = stairs();
         x.measure(0, 2, 9, 2);
         x.align(0);
@@ -113,6 +122,7 @@ public final class MeasureTest {
     }
 
     private static void latestThatSaysSomething() {
+        CHECK.promise(17, "what the latest MEASURE says that says something of it");
         TrackNights x = stairs();
         x.measure(0, 0, 9, 0);
         x.measure(0, 7, 9, 1);
@@ -133,6 +143,7 @@ public final class MeasureTest {
     }
 
     private static void asTheyWereThen() {
+        CHECK.promise(17, "as they are then");
         TrackNights x = new TrackNights();
         x.pass(20, 27, 3);
         x.measure(0, 4, 4, 0);
@@ -144,6 +155,7 @@ public final class MeasureTest {
     }
 
     private static void smallCracksAreNotSeen() {
+        CHECK.promise(17, "the CRACK (0, if that is below 5)");
         TrackNights x = new TrackNights();
         x.curve(0, true);
         x.pass(40, 27, 5);
@@ -164,6 +176,7 @@ public final class MeasureTest {
 
     // Promise 23
     private static void couldSeeIsByTheTrueKilometre() {
+        CHECK.promise(23, "the first MEASURE that WROTE a CRACK of this SECTION (above 0), for whichever KILOMETRE; NONE without one");
         TrackNights x = new TrackNights();
         x.curve(13, true);
         x.pass(40, 27, 5);
@@ -187,12 +200,14 @@ public final class MeasureTest {
         y.pass(0, 27, 6);
         y.measure(0, 3, 3, 0);
         CHECK.is("couldSee by the first of all", y.couldSee(3), 0);
+        CHECK.promise(23, "if section is not 0 to 19");
         CHECK.index(x, "couldSee(-1)", () -> x.couldSee(-1));
         CHECK.index(x, "couldSee(20)", () -> x.couldSee(20));
     }
 
     // Promise 17, with 18
     private static void knownSpeed() {
+        CHECK.promise(17, "The KNOWN speed is the SPEED of that (with HEAT, and the FREE of the SECTION)");
         TrackNights x = new TrackNights();
         x.curve(6, true);
         x.pass(40, 27, 6);
@@ -214,8 +229,10 @@ public final class MeasureTest {
         CHECK.is("KNOWN speed with HEAT", x.known(7, 3), 40);
         CHECK.is("why with HEAT", x.why(7, true), 4);
         CHECK.is("many 14 with HEAT", x.many(14), 20);
+        CHECK.promise(17, "if section is not 0 to 19");
         CHECK.index(x, "known(-1, 0)", () -> x.known(-1, 0));
         CHECK.index(x, "known(20, 9)", () -> x.known(20, 9));
+        CHECK.promise(17, "if what is not 0 to 4");
         CHECK.argument(x, "known(0, -1)", () -> x.known(0, -1));
         CHECK.argument(x, "known(0, 5)", () -> x.known(0, 5));
     }

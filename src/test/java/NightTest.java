@@ -32,39 +32,48 @@ public final class NightTest {
 
     // Promises 7 and 19
     private static void machines() {
+        CHECK.promise(7, "if kind is not 0 to 2, or life not 0 to 99");
         TrackNights x = new TrackNights();
         CHECK.argument(x, "machine(-1, 0)", () -> x.machine(-1, 0));
         CHECK.argument(x, "machine(3, 0)", () -> x.machine(3, 0));
         CHECK.argument(x, "machine(0, -1)", () -> x.machine(0, -1));
         CHECK.argument(x, "machine(0, 100)", () -> x.machine(0, 100));
+        CHECK.promise(19, "if there is no such MACHINE");
         CHECK.index(x, "ofMachine(0, 0) without one", () -> x.ofMachine(0, 0));
+        CHECK.promise(7, "Returns its number");
         CHECK.is("machine", x.machine(2, 99), 0);
         CHECK.is("machine", x.machine(0, 0), 1);
         CHECK.is("machine", x.machine(1, 7), 2);
         CHECK.is("machine", x.machine(1, 8), 3);
+        CHECK.promise(7, "if there are 4");
         CHECK.state(x, "a fifth machine", () -> x.machine(1, 8));
         CHECK.argument(x, "a fifth machine of no kind", () -> x.machine(3, 8));
         CHECK.is("many machines", x.many(1), 4);
+        CHECK.promise(19, "0 its KIND, 1 LIFE, 2 how many WORKS it did, 3 how often it FAILED");
         int[][] due = {{2, 99, 0, 0}, {0, 0, 0, 0}, {1, 7, 0, 0}, {1, 8, 0, 0}};
         for (int m = 0; m < 4; m++) {
             for (int what = 0; what < 4; what++) {
                 CHECK.is("ofMachine(" + m + ", " + what + ")", x.ofMachine(m, what), due[m][what]);
             }
         }
+        CHECK.promise(19, "if there is no such MACHINE");
         CHECK.index(x, "ofMachine(-1, 0)", () -> x.ofMachine(-1, 0));
         CHECK.index(x, "ofMachine(4, 7)", () -> x.ofMachine(4, 7));
+        CHECK.promise(19, "if what is not 0 to 3");
         CHECK.argument(x, "ofMachine(0, -1)", () -> x.ofMachine(0, -1));
         CHECK.argument(x, "ofMachine(0, 4)", () -> x.ofMachine(0, 4));
     }
 
     // Promise 8
     private static void services() {
+        CHECK.promise(8, "if there is no such MACHINE");
         TrackNights x = new TrackNights();
         CHECK.index(x, "service(0) without one", () -> x.service(0));
         x.machine(0, 3);
         x.machine(1, 90);
         CHECK.index(x, "service(-1)", () -> x.service(-1));
         CHECK.index(x, "service(2)", () -> x.service(2));
+        CHECK.promise(8, "LIFE is 40, and 200 of COST; returns its LIFE before");
         CHECK.is("service(1)", x.service(1), 90);
         CHECK.is("LIFE behind it", x.ofMachine(1, 1), 40);
         CHECK.is("COST", x.many(9), 200);
@@ -73,6 +82,7 @@ public final class NightTest {
         x.pass(0, 27, 5);
         CHECK.is("service in one that is BOOKED", x.service(0), 3);
         takeIt(x, 0);
+        CHECK.promise(8, "if it is in a POSSESSION that is TAKEN");
         CHECK.state(x, "service in one that is TAKEN", () -> x.service(0));
         CHECK.is("service of one that is not in it", x.service(1), 40);
         x.giveBack(0);
@@ -82,6 +92,7 @@ public final class NightTest {
 
     // Promise 9
     private static void bookRefuses() {
+        CHECK.promise(9, "if track is not 0 or 1, or from or to not 0 to 9");
         TrackNights x = new TrackNights();
         x.pass(0, 27, 7);
         CHECK.index(x, "book, track -1", () -> x.book(-1, 0, 0, 20, 2));
@@ -91,6 +102,7 @@ public final class NightTest {
         CHECK.index(x, "book, to 10", () -> x.book(0, 0, 10, 20, 2));
         CHECK.index(x, "book, to -1", () -> x.book(0, 0, -1, 20, 2));
         CHECK.index(x, "book, to 10 and hours 9", () -> x.book(0, 0, 10, 20, 9));
+        CHECK.promise(9, "if to is below from, day less than 5 later than DAY, or above 2000, or hours not 2 to 8");
         CHECK.argument(x, "book, to below from", () -> x.book(0, 1, 0, 20, 2));
         CHECK.argument(x, "book, DAY 11", () -> x.book(0, 0, 0, 11, 2));
         CHECK.argument(x, "book, DAY 2001", () -> x.book(0, 0, 0, 2001, 2));
@@ -98,11 +110,13 @@ public final class NightTest {
         CHECK.argument(x, "book, the least of DAYS", () -> x.book(0, 0, 0, Integer.MIN_VALUE, 2));
         CHECK.argument(x, "book, 1 hour", () -> x.book(0, 0, 0, 20, 1));
         CHECK.argument(x, "book, 9 hours", () -> x.book(0, 0, 0, 20, 9));
+        CHECK.promise(9, "Returns its number");
         CHECK.is("book, DAY 12", x.book(0, 0, 0, 12, 2), 0);
         CHECK.is("book, DAY 2000", x.book(0, 0, 9, 2000, 8), 1);
     }
 
     private static void bookedOnesKeepApart() {
+        CHECK.promise(9, "or one for that DAY that is not CANCELLED has a SECTION in common with it");
         TrackNights x = new TrackNights();
         x.book(0, 3, 5, 10, 2);
         CHECK.state(x, "book the same", () -> x.book(0, 3, 5, 10, 2));
@@ -120,6 +134,7 @@ public final class NightTest {
     }
 
     private static void atMostSixteen() {
+        CHECK.promise(9, "if there were 16");
         TrackNights x = new TrackNights();
         for (int i = 0; i < 16; i++) {
             CHECK.is("book", x.book(0, 0, 9, 100 + i, 2), i);
@@ -133,6 +148,7 @@ public final class NightTest {
 
     // Promise 10
     private static void workRefuses() {
+        CHECK.promise(10, "if there is no such POSSESSION, or MACHINE, or section is not 0 to 19");
         TrackNights x = new TrackNights();
         x.machine(0, 9);
         CHECK.index(x, "work without a possession", () -> x.work(0, 0, 0));
@@ -144,13 +160,16 @@ public final class NightTest {
         CHECK.index(x, "work, section -1", () -> x.work(0, -1, 0));
         CHECK.index(x, "work, section 20", () -> x.work(0, 20, 0));
         CHECK.index(x, "work, section outside and machine 1", () -> x.work(0, 6, 1));
+        CHECK.promise(10, "if the SECTION is not in the POSSESSION");
         CHECK.argument(x, "work ahead of it", () -> x.work(0, 1, 0));
         CHECK.argument(x, "work behind it", () -> x.work(0, 6, 0));
         CHECK.argument(x, "work on the other track", () -> x.work(0, 13, 0));
         for (int i = 1; i <= 6; i++) {
             CHECK.is("work " + i, x.work(0, 2 + i % 4, 0), i);
         }
+        CHECK.promise(10, "there are 6");
         CHECK.state(x, "a seventh work", () -> x.work(0, 2, 0));
+        CHECK.promise(10, "if it is not BOOKED");
         x.pass(0, 27, 5);
         x.book(1, 0, 0, 10, 8);
         takeIt(x, 0);
@@ -166,6 +185,7 @@ public final class NightTest {
     }
 
     private static void worksTakeHours() {
+        CHECK.promise(10, "each takes 1, 2, 4 HOURS by the KIND, 1 more if the SECTION is a CURVE as it is put in");
         TrackNights x = new TrackNights();
         x.machine(0, 9);
         x.machine(1, 9);
@@ -177,9 +197,11 @@ public final class NightTest {
         CHECK.is("a TAMPER", x.work(0, 2, 0), 1);
         CHECK.is("a GRINDER", x.work(0, 2, 1), 3);
         CHECK.is("a RENEWER", x.work(0, 2, 2), 7);
+        CHECK.promise(10, "they would take too long");
         CHECK.state(x, "a GRINDER more", () -> x.work(0, 2, 1));
         CHECK.state(x, "a TAMPER more on a CURVE", () -> x.work(0, 3, 0));
         CHECK.is("a TAMPER more", x.work(0, 4, 0), 8);
+        CHECK.promise(10, "1 more if the SECTION is a CURVE as it is put in");
         CHECK.is("a TAMPER on a CURVE", x.work(1, 3, 0), 2);
         x.curve(3, false);
         CHECK.is("HOURS as it was put in", x.ofPossession(1, 7), 2);
@@ -191,6 +213,7 @@ public final class NightTest {
     }
 
     private static void machinesAreInOneNight() {
+        CHECK.promise(10, "or the MACHINE is in another one of that DAY that is BOOKED or TAKEN");
         TrackNights x = new TrackNights();
         x.machine(0, 9);
         x.machine(0, 9);
@@ -216,6 +239,7 @@ public final class NightTest {
 
     // Promise 11
     private static void cancels() {
+        CHECK.promise(11, "if there is no such POSSESSION");
         TrackNights x = new TrackNights();
         CHECK.index(x, "cancel(0) without one", () -> x.cancel(0));
         x.book(0, 0, 0, 5, 7);
@@ -223,6 +247,7 @@ public final class NightTest {
         x.book(0, 0, 0, 7, 7);
         CHECK.index(x, "cancel(-1)", () -> x.cancel(-1));
         CHECK.index(x, "cancel(3)", () -> x.cancel(3));
+        CHECK.promise(11, "10 of COST for each of its HOURS, if its DAY is less than 5 later");
         CHECK.is("cancel, 5 DAYS ahead", x.cancel(0), 0);
         CHECK.is("COST", x.many(9), 0);
         CHECK.state(x, "cancel again", () -> x.cancel(0));
@@ -231,6 +256,7 @@ public final class NightTest {
         CHECK.is("COST", x.many(9), 70);
         x.pass(0, 27, 5);
         takeIt(x, 2);
+        CHECK.promise(11, "if it is not BOOKED");
         CHECK.state(x, "cancel one that is TAKEN", () -> x.cancel(2));
         x.giveBack(2);
         CHECK.state(x, "cancel one that is GIVEN BACK", () -> x.cancel(2));
@@ -240,6 +266,7 @@ public final class NightTest {
         CHECK.state(x, "cancel one that is MISSED", () -> x.cancel(3));
         x.mark(4, 0);
         CHECK.is("COST", x.many(9), 70 + 7 * 20);
+        CHECK.promise(11, "10 of COST for each of its HOURS, if its DAY is less than 5 later");
         CHECK.is("cancel on its DAY", x.cancel(4), 30);
         CHECK.is("COST", x.many(9), 70 + 7 * 20 + 30);
         CHECK.is("many CANCELLED", x.many(8), 3);
@@ -249,6 +276,7 @@ public final class NightTest {
 
     // Promise 12
     private static void marks() {
+        CHECK.promise(12, "if there is no such POSSESSION, or end is not 0 or 1");
         TrackNights x = new TrackNights();
         CHECK.index(x, "mark(0, 0) without one", () -> x.mark(0, 0));
         x.book(0, 0, 0, 5, 2);
@@ -257,10 +285,12 @@ public final class NightTest {
         CHECK.index(x, "mark(2, 0)", () -> x.mark(2, 0));
         CHECK.index(x, "mark(0, -1)", () -> x.mark(0, -1));
         CHECK.index(x, "mark(0, 2), not its DAY", () -> x.mark(0, 2));
+        CHECK.promise(12, "its DAY is not this one");
         CHECK.state(x, "mark, not its DAY", () -> x.mark(0, 0));
         x.pass(0, 27, 4);
         CHECK.state(x, "mark, the DAY ahead", () -> x.mark(0, 0));
         x.pass(0, 27, 1);
+        CHECK.promise(12, "Returns how many ends are MARKED then");
         CHECK.is("mark the second end", x.mark(0, 1), 1);
         CHECK.state(x, "mark it again", () -> x.mark(0, 1));
         CHECK.is("mark the first end", x.mark(0, 0), 2);
@@ -268,6 +298,7 @@ public final class NightTest {
         CHECK.is("mark one of another", x.mark(1, 0), 1);
         CHECK.is("ends that are MARKED", x.ofPossession(1, 8), 1);
         x.take(0);
+        CHECK.promise(12, "if it is not BOOKED");
         CHECK.state(x, "mark one that is TAKEN", () -> x.mark(0, 0));
         x.cancel(1);
         CHECK.state(x, "mark one that is CANCELLED", () -> x.mark(1, 1));
@@ -275,17 +306,20 @@ public final class NightTest {
 
     // Promise 13
     private static void takes() {
+        CHECK.promise(13, "if there is no such POSSESSION");
         TrackNights x = new TrackNights();
         CHECK.index(x, "take(0) without one", () -> x.take(0));
         x.book(0, 2, 8, 5, 2);
         x.book(1, 9, 9, 5, 2);
         CHECK.index(x, "take(-1)", () -> x.take(-1));
         CHECK.index(x, "take(2)", () -> x.take(2));
+        CHECK.promise(13, "or not both ends are MARKED");
         CHECK.state(x, "take one without marks", () -> x.take(0));
         x.pass(0, 27, 5);
         x.mark(0, 0);
         CHECK.state(x, "take one with one mark", () -> x.take(0));
         x.mark(0, 1);
+        CHECK.promise(13, "Returns how many SECTIONS it has");
         CHECK.is("take", x.take(0), 7);
         CHECK.state(x, "take again", () -> x.take(0));
         CHECK.is("many TAKEN", x.many(5), 1);
@@ -296,6 +330,7 @@ public final class NightTest {
 
     // Promise 14
     private static void givesBack() {
+        CHECK.promise(14, "if there is no such POSSESSION");
         TrackNights x = new TrackNights();
         CHECK.index(x, "giveBack(0) without one", () -> x.giveBack(0));
         x.machine(0, 9);
@@ -305,9 +340,11 @@ public final class NightTest {
         x.work(0, 3, 1);
         CHECK.index(x, "giveBack(-1)", () -> x.giveBack(-1));
         CHECK.index(x, "giveBack(1)", () -> x.giveBack(1));
+        CHECK.promise(14, "if it is not TAKEN");
         CHECK.state(x, "giveBack of one that is BOOKED", () -> x.giveBack(0));
         x.pass(0, 27, 5);
         takeIt(x, 0);
+        CHECK.promise(14, "its WORKS are done, each if its MACHINE has a LIFE that is as much as the HOURS of it, or more");
         CHECK.is("nothing is done yet", x.ofMachine(0, 2), 0);
         CHECK.is("giveBack", x.giveBack(0), 0);
         CHECK.state(x, "giveBack again", () -> x.giveBack(0));
@@ -319,6 +356,7 @@ public final class NightTest {
     }
 
     private static void failures() {
+        CHECK.promise(14, "the MACHINE FAILS: its LIFE is 0, this WORK is not done, and takes 2 HOURS more");
         TrackNights x = new TrackNights();
         x.machine(2, 7);
         x.machine(0, 1);
@@ -353,6 +391,7 @@ public final class NightTest {
     }
 
     private static void treatments() {
+        CHECK.promise(14, "TAMPING, GRINDING, RENEWING");
         TrackNights x = new TrackNights();
         x.machine(0, 40);
         x.machine(1, 40);
@@ -402,6 +441,7 @@ public final class NightTest {
     }
 
     private static void freeHasEdges() {
+        CHECK.promise(14, "FREE is the HEAT (10 at least, 40 at most)");
         int[][] due = {{-20, 10}, {9, 10}, {10, 10}, {11, 11}, {39, 39}, {40, 40}, {41, 40}, {60, 40}};
         for (int[] row : due) {
             TrackNights x = new TrackNights();
@@ -417,6 +457,7 @@ public final class NightTest {
     }
 
     private static void lateNights() {
+        CHECK.promise(14, "The OVERRUN: 0 at least, and then 2 more, if section 1 gave it BACK");
         TrackNights x = new TrackNights();
         x.machine(1, 1);
         x.book(0, 0, 9, 5, 3);
@@ -439,16 +480,20 @@ public final class NightTest {
 
     // Promise 15
     private static void walks() {
+        CHECK.promise(15, "if section is not 0 to 19");
         TrackNights x = new TrackNights();
         CHECK.index(x, "walk(-1, 100)", () -> x.walk(-1, 100));
         CHECK.index(x, "walk(20, 49)", () -> x.walk(20, 49));
+        CHECK.promise(15, "if sight is not 50 to 2000");
         CHECK.argument(x, "walk(0, 49)", () -> x.walk(0, 49));
         CHECK.argument(x, "walk(0, 2001)", () -> x.walk(0, 2001));
         CHECK.is("walk(0, 2000)", x.walk(0, 2000), true);
         CHECK.is("walk(0, 50)", x.walk(0, 50), false);
+        CHECK.promise(15, "has to be 25 seconds or more");
         CHECK.is("24 seconds", x.walk(0, 1111), false);
         CHECK.is("25 seconds", x.walk(0, 1112), true);
         CHECK.is("UNSAFE ones", x.many(12), 2);
+        CHECK.promise(15, "the greater one of the SIGNS");
         x.sign(0, 72);
         CHECK.is("the other track's SIGN is greater", x.walk(0, 1111), false);
         x.sign(10, 60);
@@ -456,6 +501,7 @@ public final class NightTest {
         CHECK.is("500 metres", x.walk(0, 500), true);
         CHECK.is("500 metres on the other track", x.walk(10, 500), true);
         CHECK.is("499 metres on the other track", x.walk(10, 499), false);
+        CHECK.promise(15, "also if both SIGNS are 0, it is SAFE");
         x.sign(0, 0);
         x.sign(10, 0);
         CHECK.is("both SIGNS 0", x.walk(0, 50), true);
@@ -464,6 +510,7 @@ public final class NightTest {
         x.sign(10, 8);
         CHECK.is("one SIGN 8", x.walk(0, 50), false);
         CHECK.is("UNSAFE ones", x.many(12), 6);
+        CHECK.promise(15, "SAFE by the POSSESSION, if the SECTION is in one that is TAKEN");
         x.book(1, 0, 3, 5, 2);
         x.pass(0, 27, 5);
         CHECK.is("BOOKED does not help", x.walk(10, 50), false);
@@ -486,19 +533,24 @@ public final class NightTest {
 
     // Promise 20
     private static void ofPossessions() {
+        CHECK.promise(20, "if there is no such POSSESSION");
         TrackNights x = new TrackNights();
         CHECK.index(x, "ofPossession(0, 0) without one", () -> x.ofPossession(0, 0));
         x.machine(1, 9);
         x.book(1, 2, 6, 37, 7);
         x.work(0, 14, 0);
+        CHECK.promise(20, "0 its state, 1 TRACK, 2 first KILOMETRE, 3 last one, 4 DAY, 5 HOURS, 6 WORKS, 7 HOURS by plan, 8 MARKED, 9 OVERRUN");
         int[] due = {0, 1, 2, 6, 37, 7, 1, 2, 0, 0};
         for (int what = 0; what < 10; what++) {
             CHECK.is("ofPossession(0, " + what + ")", x.ofPossession(0, what), due[what]);
         }
+        CHECK.promise(20, "if there is no such POSSESSION");
         CHECK.index(x, "ofPossession(-1, 0)", () -> x.ofPossession(-1, 0));
         CHECK.index(x, "ofPossession(1, 10)", () -> x.ofPossession(1, 10));
+        CHECK.promise(20, "if what is not 0 to 9");
         CHECK.argument(x, "ofPossession(0, -1)", () -> x.ofPossession(0, -1));
         CHECK.argument(x, "ofPossession(0, 10)", () -> x.ofPossession(0, 10));
+        CHECK.promise(20, "0 its state, 6 WORKS");
         x.cancel(0);
         CHECK.is("CANCELLED", x.ofPossession(0, 0), 4);
         CHECK.is("its WORKS", x.ofPossession(0, 6), 1);

@@ -31,6 +31,7 @@ public final class RoadTest {
 
     // Promise 1
     private static void aNewRoad() {
+        CHECK.promise(1, "Creates a road that is new");
         TrackNights x = new TrackNights();
         int[] due = {0, 0, 0, 0, 0, 0, 0, 0, 0, 0, 0, 0, 0, 0, 0, 20, 0};
         for (int what = 0; what <= 16; what++) {
@@ -57,6 +58,7 @@ public final class RoadTest {
 
     // Promise 2
     private static void curves() {
+        CHECK.promise(2, "Returns whether it was");
         TrackNights x = new TrackNights();
         CHECK.is("curve, first", x.curve(19, true), false);
         CHECK.is("curve, again", x.curve(19, true), true);
@@ -65,6 +67,7 @@ public final class RoadTest {
         CHECK.is("curve no more", x.curve(19, false), true);
         CHECK.is("ofSection 5 of no curve", x.ofSection(19, 5), 0);
         CHECK.is("curve was not", x.curve(0, false), false);
+        CHECK.promise(2, "if section is not 0 to 19");
         CHECK.index(x, "curve(-1)", () -> x.curve(-1, true));
         CHECK.index(x, "curve(20)", () -> x.curve(20, true));
         CHECK.index(x, "curve(least)", () -> x.curve(Integer.MIN_VALUE, true));
@@ -72,21 +75,26 @@ public final class RoadTest {
 
     // Promise 3
     private static void signs() {
+        CHECK.promise(3, "Returns that before");
         TrackNights x = new TrackNights();
         CHECK.is("sign, first", x.sign(7, 0), 160);
         CHECK.is("sign, second", x.sign(7, 160), 0);
         CHECK.is("sign, third", x.sign(7, 83), 160);
         CHECK.is("ofSection 6", x.ofSection(7, 6), 83);
         CHECK.is("ofSection 6 beside it", x.ofSection(6, 6), 160);
+        CHECK.promise(3, "if section is not 0 to 19");
         CHECK.index(x, "sign(-1, 5)", () -> x.sign(-1, 5));
         CHECK.index(x, "sign(20, 5)", () -> x.sign(20, 5));
+        CHECK.promise(3, "if speed is not 0 to 160");
         CHECK.argument(x, "sign(0, -1)", () -> x.sign(0, -1));
         CHECK.argument(x, "sign(0, 161)", () -> x.sign(0, 161));
+        CHECK.promise(3, "the one that is named first is thrown");
         CHECK.index(x, "sign(20, 161)", () -> x.sign(20, 161));
     }
 
     // Promise 4
     private static void passRefuses() {
+        CHECK.promise(4, "if trains is not 0 to 40, heat not -20 to 60, or days not 1 to 60");
         TrackNights x = new TrackNights();
         CHECK.argument(x, "pass(-1, 0, 1)", () -> x.pass(-1, 0, 1));
         CHECK.argument(x, "pass(41, 0, 1)", () -> x.pass(41, 0, 1));
@@ -95,6 +103,7 @@ public final class RoadTest {
         CHECK.argument(x, "pass(0, 0, 0)", () -> x.pass(0, 0, 0));
         CHECK.argument(x, "pass(0, 0, 61)", () -> x.pass(0, 0, 61));
         CHECK.argument(x, "pass(0, 0, most)", () -> x.pass(0, 0, Integer.MAX_VALUE));
+        CHECK.promise(4, "DAY is 1 more");
         x.pass(40, 60, 60);
         x.pass(0, -20, 1);
         CHECK.is("DAY", x.many(0), 61);
@@ -102,6 +111,7 @@ public final class RoadTest {
     }
 
     private static void lastDay() {
+        CHECK.promise(4, "if DAY would be above 2000");
         TrackNights x = new TrackNights();
         for (int i = 0; i < 33; i++) {
             x.pass(0, 27, 60);
@@ -115,6 +125,7 @@ public final class RoadTest {
     }
 
     private static void wearOfTrains() {
+        CHECK.promise(4, "WEAR is TRAINS / 8 more, on a CURVE TRAINS / 4");
         TrackNights x = curved(1);
         x.pass(7, 27, 1);
         CHECK.is("WEAR of 7 trains", x.ofSection(0, 0), 0);
@@ -125,12 +136,14 @@ public final class RoadTest {
         x.curve(1, false);
         x.pass(8, 27, 1);
         CHECK.is("WEAR, a curve no more", x.ofSection(1, 0), 16);
+        CHECK.promise(4, "all up to what is their most");
         x.pass(40, 27, 19);
         CHECK.is("WEAR is 100 at most", x.ofSection(1, 0), 100);
         CHECK.is("WEAR below 100", x.ofSection(0, 0), 100);
     }
 
     private static void cracksGrow() {
+        CHECK.promise(4, "if it is 0, 1 more with a WEAR of 50 or more");
         TrackNights x = curved(0);
         x.pass(40, 27, 4);
         x.pass(36, 27, 1);
@@ -140,6 +153,7 @@ public final class RoadTest {
         CHECK.is("still no CRACK", x.ofSection(0, 1), 0);
         x.pass(4, 27, 1);
         CHECK.is("CRACK comes on the DAY of a WEAR of 50", x.ofSection(0, 1), 1);
+        CHECK.promise(4, "CRACK is 1 and CRACK / 8 more, if it is above 0; up to what is their most");
         int[] due = {2, 3, 4, 5, 6, 7, 8, 10, 12, 14, 16, 19, 22, 25, 29, 33, 38, 43, 49, 56, 60, 60};
         for (int crack : due) {
             x.pass(0, 27, 1);
@@ -149,16 +163,19 @@ public final class RoadTest {
     }
 
     private static void settleGrows() {
+        CHECK.promise(4, "SETTLE is TRAINS and 5 times TAMPS, together, / 10 more");
         TrackNights x = new TrackNights();
         x.pass(9, 27, 3);
         CHECK.is("SETTLE of 9 trains", x.ofSection(4, 2), 0);
         x.pass(19, 27, 3);
         CHECK.is("SETTLE of 19 trains, three times", x.ofSection(4, 2), 3);
+        CHECK.promise(4, "all up to what is their most");
         x.pass(40, 27, 14);
         CHECK.is("SETTLE 59", x.ofSection(4, 2), 59);
         x.pass(40, 27, 1);
         CHECK.is("SETTLE is 60 at most", x.ofSection(4, 2), 60);
 
+        CHECK.promise(4, "SETTLE is TRAINS and 5 times TAMPS, together, / 10 more");
         TrackNights y = new TrackNights();
         y.machine(0, 40);
         y.book(0, 0, 0, 5, 8);
@@ -179,6 +196,7 @@ public final class RoadTest {
     }
 
     private static void costOfSigns() {
+        CHECK.promise(4, "COST is TRAINS times (160 less SIGN), / 80, more for each SECTION");
         TrackNights x = new TrackNights();
         x.sign(0, 107);
         x.sign(1, 107);
@@ -192,6 +210,7 @@ public final class RoadTest {
     }
 
     private static void risksAndBreaks() {
+        CHECK.promise(4, "each SECTION whose SIGN is above its TRUE speed is a RISK of that DAY");
         TrackNights x = curved(0);
         CHECK.is("RISKS of 4 DAYS", x.pass(40, 27, 4), 0);
         CHECK.is("RISKS of DAY 5 (SETTLE 20)", x.pass(40, 27, 1), 20);
@@ -202,6 +221,7 @@ public final class RoadTest {
         CHECK.is("RISKS, SIGNS at the TRUE speed", x.pass(0, 27, 20), 0);
         CHECK.is("CRACK by then", x.ofSection(0, 1), 56);
         CHECK.is("none BROKE", x.many(11), 0);
+        CHECK.promise(4, "A SECTION with a CRACK of 60 and a SIGN above 0 BREAKS: its SIGN is 0");
         x.pass(0, 27, 2);
         CHECK.is("a SIGN of 0 does not BREAK", x.many(11), 0);
         x.sign(0, 1);
@@ -220,6 +240,7 @@ public final class RoadTest {
     }
 
     private static void heatBears() {
+        CHECK.promise(16, "HEAT less FREE: above 30: 40, above 20: 80, below -40: 100, otherwise 160");
         int[][] due = {{47, 160, 0}, {48, 80, 4}, {57, 80, 4}, {58, 40, 4}, {60, 40, 4}, {-13, 160, 0}, {-14, 100, 4}, {-20, 100, 4}};
         for (int[] row : due) {
             TrackNights x = new TrackNights();
@@ -238,6 +259,7 @@ public final class RoadTest {
     }
 
     private static void wearBears() {
+        CHECK.promise(16, "WEAR below 60: 160, below 80: 100, below 100: 60, otherwise 20");
         TrackNights x = curved(0);
         x.pass(36, 27, 6);
         x.pass(20, 27, 1);
@@ -262,6 +284,7 @@ public final class RoadTest {
     }
 
     private static void crackBears() {
+        CHECK.promise(16, "CRACK below 10: 160, below 20: 80, below 40: 40, otherwise 0");
         TrackNights x = curved(0);
         x.machine(1, 40);
         x.book(0, 0, 0, 19, 8);
@@ -337,6 +360,7 @@ public final class RoadTest {
     }
 
     private static void settleBears() {
+        CHECK.promise(16, "SETTLE below 20: 160, below 30: 120, below 40: 80, below 50: 40, otherwise 10");
         TrackNights x = new TrackNights();
         int[][] due = {{19, 160, 0}, {20, 120, 3}, {29, 120, 3}, {30, 80, 3}, {39, 80, 3}, {40, 40, 3}, {49, 40, 3}, {50, 10, 3}, {55, 10, 3}};
         for (int[] row : due) {
@@ -347,6 +371,7 @@ public final class RoadTest {
     }
 
     private static void nightsEnd() {
+        CHECK.promise(4, "BOOKED ones are MISSED; TAKEN ones are GIVEN BACK, with 2 HOURS more of OVERRUN");
         TrackNights x = new TrackNights();
         x.machine(0, 1);
         x.book(0, 0, 4, 5, 2);
@@ -375,6 +400,7 @@ public final class RoadTest {
     }
 
     private static void nightsEndWithTheOldHeat() {
+        CHECK.promise(4, "GIVEN BACK with the HEAT of the DAY ahead");
         TrackNights x = new TrackNights();
         x.machine(2, 40);
         x.book(0, 0, 0, 5, 8);
