@@ -894,7 +894,7 @@ public final class TrackNights {
 
         /** What this says of a section, or null. */
         Values says(int section) {
-            return aligned ? writtenOf(section) : writtenFor(section, 0);
+            return writtenFor(section, aligned ? drift : 0);
         }
 
         /** What was written of a section, whichever kilometre it was taken for; or null. */
